@@ -1021,7 +1021,10 @@ public final class DistrictTotals {
 
         /** The character at this place, or NONE behind the end. */
         private int signAt(int index) {
-            return index >= 0 && index < size && index < signs.length ? signs[index] : NONE;
+            if (index < 0 || index >= size || index >= signs.length) {
+                return NONE;
+            }
+            return signs[index];
         }
 
         private int digitAt(int index) {
@@ -1070,8 +1073,10 @@ public final class DistrictTotals {
             for (int from = 0; from < CROSSINGS; from++) {
                 int overOne = between(layer, from, one) + length;
                 int overOther = between(layer, from, other) + length;
-                if (overOne < FAR || overOther < FAR) {
+                // Where the lane does not shorten the way to its own far end, it shortens none behind it.
+                if (overOne < between(layer, from, other)) {
                     shortenFrom(layer, from, overOne, other);
+                } else if (overOther < between(layer, from, one)) {
                     shortenFrom(layer, from, overOther, one);
                 }
             }
@@ -1092,6 +1097,7 @@ public final class DistrictTotals {
     private static final class Totals {
         private final Ways ways;
         private final Table districts;
+        private final Table gates;
         private final Table sums;
         private final Table rules;
         private int alleys;
@@ -1099,6 +1105,7 @@ public final class DistrictTotals {
         Totals() {
             ways = new Ways();
             districts = new Table(CROSSINGS, 1);
+            gates = new Table(DISTRICTS, 1);
             sums = new Table(CROSSINGS, ALLEYS);
             rules = new Table(CROSSINGS, ALLEYS);
             alleys = 0;
@@ -1144,32 +1151,50 @@ public final class DistrictTotals {
 
         private void sumUp(Plan plan) {
             alleys = plan.alleyCount();
-            for (int crossing = 0; crossing < CROSSINGS; crossing++) {
-                findDistricts(crossing);
-                for (int alley = 0; alley < alleys; alley++) {
+            findDistricts();
+            for (int alley = 0; alley < alleys; alley++) {
+                for (int crossing = 0; crossing < CROSSINGS; crossing++) {
                     sums.put(crossing, alley, FAR);
                     rules.put(crossing, alley, 0);
                 }
-            }
-            for (int alley = 0; alley < alleys; alley++) {
                 sumUpAlley(plan, alley);
             }
         }
 
-        private void findDistricts(int crossing) {
-            int set = 0;
+        private void findDistricts() {
             for (int district = 0; district < DISTRICTS; district++) {
-                if (ways.between(district, crossing, crossing) == 0) {
-                    set |= 1 << district;
+                gates.put(district, 0, 0);
+            }
+            for (int crossing = 0; crossing < CROSSINGS; crossing++) {
+                int set = 0;
+                for (int district = 0; district < DISTRICTS; district++) {
+                    if (ways.between(district, crossing, crossing) == 0) {
+                        set |= 1 << district;
+                    }
+                }
+                districts.put(crossing, 0, set);
+                if (isIn(BACKBONE, crossing)) {
+                    addGate(crossing, set);
                 }
             }
-            districts.put(crossing, 0, set);
+        }
+
+        private void addGate(int crossing, int set) {
+            for (int district = BACKBONE + 1; district < DISTRICTS; district++) {
+                if ((set >> district & 1) != 0) {
+                    gates.put(district, 0, gates.at(district, 0) | 1 << crossing);
+                }
+            }
         }
 
         private void sumUpAlley(Plan plan, int alley) {
             int end = plan.alleyCell(alley, ALLEY_AT);
             int district = plan.alleyCell(alley, ALLEY_DISTRICT);
             int length = plan.alleyCell(alley, ALLEY_LENGTH);
+            // Each total ends with a way within the alley's district.
+            if (!isIn(district, end)) {
+                return;
+            }
             for (int crossing = 0; crossing < CROSSINGS; crossing++) {
                 int own = ways.between(district, crossing, end);
                 if (own < FAR) {
@@ -1196,8 +1221,9 @@ public final class DistrictTotals {
         /** The least way from a crossing over a gate of the district to an end in it. */
         private int leastOverBackbone(int crossing, int district, int end) {
             int least = FAR;
+            int set = gates.at(district, 0);
             for (int gate = 0; gate < CROSSINGS; gate++) {
-                if (isGate(district, gate)) {
+                if ((set >> gate & 1) != 0) {
                     int way = ways.between(BACKBONE, crossing, gate) + ways.between(district, gate, end);
                     least = Math.min(least, way);
                 }
@@ -1211,8 +1237,9 @@ public final class DistrictTotals {
                 if (!isIn(district, crossing)) {
                     continue;
                 }
+                int set = gates.at(district, 0);
                 for (int gate = 0; gate < CROSSINGS; gate++) {
-                    if (isGate(district, gate)) {
+                    if ((set >> gate & 1) != 0) {
                         least = Math.min(least, ways.between(district, crossing, gate) + sumFor(gate, alley));
                     }
                 }
@@ -1289,9 +1316,8 @@ public final class DistrictTotals {
             return (districts.at(crossing, 0) >> district & 1) != 0;
         }
 
-        boolean isGate(int district, int crossing) {
-            int both = 1 << BACKBONE | 1 << district;
-            return district != BACKBONE && (districts.at(crossing, 0) & both) == both;
+        private boolean isGate(int district, int crossing) {
+            return (gates.at(district, 0) >> crossing & 1) != 0;
         }
 
         int gateDistrictsOf(int crossing) {

@@ -454,6 +454,8 @@ public final class PromiseTest {
         x.rank(7, 0);
         due("crossingOf(7, 3) of a lane without a clerk", x.crossingOf(7, 3), 0);
         due("crossingOf(0, 0)", x.crossingOf(0, 0), 0);
+        due("crossingOf(1, 3) of the lanes 0 and 1", x.crossingOf(1, 3), 1);
+        due("crossingOf(2, 3)", x.crossingOf(2, 3), 1);
     }
 
     private static void within() {
@@ -529,6 +531,17 @@ public final class PromiseTest {
         due("two districts as near, steps", x.total(5, 0, 3), set(0, 4));
         x.takeLane(6);
         due("one district", x.total(5, 0, 3), set(4));
+        // 3 for the crossing 0, and what was a gate is none any more.
+        x = told("1-2*1:0;0-1*1:2;2-3*1:1;a3+0:1");
+        due("3 for the crossing 0", x.total(0, 0, 0), 3);
+        due("3 for the crossing 0, rule", x.total(0, 0, 1), 3);
+        due("2 for the gate", x.total(1, 0, 0), 2);
+        x.close(0, true);
+        due("2 is no gate any more", x.total(0, 0, 0), NONE);
+        due("2 is in the district still", x.total(2, 0, 0), 1);
+        x.lane(1, 4, 1, 0);
+        due("a gate of another part of the backbone", x.total(0, 0, 0), NONE);
+        due("a gate of another part of the backbone", x.total(1, 0, 0), NONE);
         // A gate's total by 1 is used by 3, though that gate's sum by 2 would be less.
         x = told("0-1*1:0;0-2*20:1;2-1*20:1;1-3*1:1;a3+0:1;0-9*1:2");
         due("total of the gate", x.total(0, 0, 0), 41);
@@ -554,6 +567,9 @@ public final class PromiseTest {
         x = told("0-1*1:0;2-3*1:0;4-0*1:2;0-2*1:2;2-5*1:1;a5+0:1");
         due("total over a gate that is cut off", x.total(4, 0, 0), 3);
         due("walk over a gate that is cut off", x.walk(4, 0, 0), NONE);
+        x = told("5-6*1:0;2-3*1:0;4-5*1:2;5-2*1:2;2-1*1:1;a1+0:1");
+        due("total over a gate that is cut off", x.total(4, 0, 0), 3);
+        due("walk over a gate that is cut off, and leads on", x.walk(4, 0, 0), NONE);
         // The walk, on a crossing with an own way, leaves the way that the total told.
         x = told("0-1*1:0;1-2*1:0;1-3*20:1;3-2*10:1;a2+0:1;a3+7:1");
         due("total(0, 0, 0)", x.total(0, 0, 0), 2);
@@ -602,6 +618,10 @@ public final class PromiseTest {
         due("stretch(-1, 0)", x.stretch(-1, 0), -1.0f);
         due("stretch(0, 3)", x.stretch(0, 3), -1.0f);
         due("stretch(0, -1)", x.stretch(0, -1), -1.0f);
+        x.takeAlley(2);
+        due("stretch(2, 2) of one that was taken", x.stretch(2, 2), -1.0f);
+        x = told("0-1*20:1;1-2*20:1;0-2*1:2;a2+0:1");
+        due("stretch(0, 0)", x.stretch(0, 0), 40.0f);
     }
 
     private static void count() {
@@ -656,6 +676,20 @@ public final class PromiseTest {
         x.lane(0, 4, 1, 1);
         due("ifClosed(0, 2)", x.ifClosed(0, 2), 2);
         due("ifClosed(0, 0)", x.ifClosed(0, 0), 0);
+        // Without its lane of the backbone the crossing 0 has a total, by 3, that it did not have.
+        x = told("0-1*1:0;2-3*1:0;0-4*1:2;4-2*1:2;2-5*1:1;a5+0:1");
+        for (int what = 0; what < 3; what++) {
+            due("ifClosed(0, " + what + ") by which one is won", x.ifClosed(0, what), 0);
+        }
+        // What was taken away counts no more.
+        x = told("0-1*1:1;1-2*1:1;0-1*3:1;a1+0:1;a1+0:1");
+        due("ifClosed(0, 1)", x.ifClosed(0, 1), 2);
+        due("ifClosed(1, 0)", x.ifClosed(1, 0), 2);
+        x.takeAlley(1);
+        due("ifClosed(0, 1) with an alley less", x.ifClosed(0, 1), 1);
+        due("ifClosed(1, 0) with an alley less", x.ifClosed(1, 0), 1);
+        x.takeLane(2);
+        due("ifClosed(0, 0) with a lane less", x.ifClosed(0, 0), 1);
     }
 
     private static void weakest() {
@@ -677,6 +711,8 @@ public final class PromiseTest {
         x.takeLane(4);
         x.alley(3, 0, 2);
         due("weakest(): the most that are greater", x.weakest(), 2);
+        x = told("0-1*1:1;0-1*5:1;2-3*1:2;2-3*5:2;a0+0:1;a1+0:1;a2+0:2");
+        due("weakest(): the most that are greater come first", x.weakest(), 0);
     }
 
     private static void bestGate() {
@@ -708,6 +744,13 @@ public final class PromiseTest {
         x.rank(2, 0);
         due("bestGate(1, 0) with ranks", x.bestGate(1, 0), 0);
         due("bestGate(1, 1) with ranks", x.bestGate(1, 1), 3);
+        x = told("1-2*1:0;0-3*1:1;a3+0:1");
+        due("bestGate(1, 0) to the crossing 0", x.bestGate(1, 0), 1);
+        due("bestGate(1, 1) to the crossing 0", x.bestGate(1, 1), 0);
+        // The most come before the lowest: 4 reaches more of the backbone than 0.
+        x = told("0-1*1:0;4-5*1:0;5-6*1:0;2-3*1:1;a3+0:1");
+        due("bestGate(1, 0) of the most", x.bestGate(1, 0), 4);
+        due("bestGate(1, 2) of the most", x.bestGate(1, 2), 3);
         // The rows of lanes are full, and yet it is told what one more would give.
         x = told("0-1*1:0;2-3*1:1;a3+0:1");
         for (int lane = 2; lane < 24; lane++) {
