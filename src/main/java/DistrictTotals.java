@@ -827,7 +827,7 @@ public final class DistrictTotals {
 
         History() {
             plans = new Plan[STATES];
-            for (int state = 0; state < STATES; state++) {
+            for (int state = 0; state < plans.length; state++) {
                 plans[state] = new Plan();
             }
             size = 0;
@@ -838,7 +838,7 @@ public final class DistrictTotals {
         }
 
         void record(Plan plan) {
-            if (size >= STATES) {
+            if (size >= plans.length) {
                 dropOldest();
             }
             if (size < 0 || size >= plans.length) {
@@ -852,12 +852,16 @@ public final class DistrictTotals {
         }
 
         private void dropOldest() {
-            Plan oldest = plans[0];
-            for (int state = 1; state < STATES; state++) {
-                plans[state - 1] = plans[state];
+            int last = plans.length - 1;
+            if (last < 0) {
+                return;
             }
-            plans[STATES - 1] = oldest;
-            size = STATES - 1;
+            Plan oldest = plans[0];
+            for (int state = 0; state < last; state++) {
+                plans[state] = plans[state + 1];
+            }
+            plans[last] = oldest;
+            size = last;
         }
 
         /** Removes the latest state and copies it to the plan; false if there is none. */
