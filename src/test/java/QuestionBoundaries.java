@@ -782,6 +782,17 @@ final class QuestionBoundaries {
                 ifClosed(0, 1) -> 0
                 ifClosed(0, 0) -> 0
                 ifClosed(2, 2) -> 0
+                new
+                lane(0, 1, 1, 0)
+                lane(2, 3, 1, 0)
+                lane(0, 4, 1, 2)
+                lane(4, 2, 1, 2)
+                lane(2, 5, 1, 1)
+                alley(5, 0, 1)
+                total(0, 0, 0) -> NONE
+                ifClosed(0, 2) -> 0
+                ifClosed(0, 1) -> 0
+                ifClosed(0, 0) -> 0
                 """);
         s.holds(24, "Tells what a lane that is told would change if it was closed.", TOWN + """
                 ifClosed(0, 0) -> 10
@@ -789,6 +800,25 @@ final class QuestionBoundaries {
                 count(4) -> 21
                 count(8) -> 4
                 total(1, 0, 0) -> 11
+                new
+                lane(13, 12, 1, 0)
+                lane(5, 6, 1, 1)
+                lane(0, 1, 1, 2)
+                alley(12, 0, 0)
+                alley(13, 0, 0)
+                alley(1, 0, 2)
+                alley(0, 0, 2)
+                ifClosed(1, 0) -> 0
+                ifClosed(1, 1) -> 0
+                ifClosed(0, 0) -> 4
+                ifClosed(2, 0) -> 4
+                new
+                lane(0, 1, 1, 0)
+                lane(0, 1, 2, 0)
+                alley(0, 0, 0)
+                ifClosed(0, 0) -> 0
+                takeLane(1)
+                ifClosed(0, 0) -> 2
                 """);
     }
 

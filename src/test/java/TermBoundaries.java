@@ -74,8 +74,10 @@ final class TermBoundaries {
                 21 x lane(0, 1, 1, 0)
                 lane(4, 5, 6, 2)
                 close(23, true)
+                close(1, true)
                 takeLane(1) -> 23
                 laneOf(0, 0) -> 2
+                laneOf(0, 4) -> 0
                 laneOf(1, 0) -> 0
                 laneOf(22, 0) -> 4
                 laneOf(22, 1) -> 5
@@ -250,6 +252,7 @@ final class TermBoundaries {
                 alley(4, 5, 2)
                 takeAlley(1) -> 11
                 alleyOf(0, 0) -> 2
+                alleyOf(0, 2) -> 1
                 alleyOf(1, 0) -> 0
                 alleyOf(10, 0) -> 4
                 alleyOf(10, 1) -> 5
@@ -287,6 +290,13 @@ final class TermBoundaries {
                 within(1, 0, 1) -> 19
                 close(3, true)
                 within(1, 0, 1) -> 20
+                new
+                lane(13, 5, 1, 0)
+                lane(0, 5, 1, 2)
+                lane(5, 6, 1, 1)
+                within(0, 13, 6) -> NONE
+                within(2, 0, 6) -> NONE
+                within(1, 5, 6) -> 1
                 """);
         s.term(18, "0 from a crossing that is in the district to itself", """
                 lane(0, 13, 3, 2)
@@ -436,6 +446,15 @@ final class TermBoundaries {
                 total(0, 0, 3) -> {1, 2, 3}
                 close(0, true)
                 total(0, 0, 3) -> {2, 3}
+                new
+                lane(3, 4, 3, 1)
+                lane(4, 5, 1, 1)
+                lane(0, 5, 2, 1)
+                lane(13, 5, 2, 0)
+                lane(8, 9, 2, 1)
+                alley(5, 0, 1)
+                total(3, 0, 0) -> 4
+                total(3, 0, 3) -> {4}
                 """);
         s.term(19, "by 2, a lane of the backbone, with which its length and the way from there, within the backbone, to a"
                 + " gate with which the sum is the least, are the way to that gate", """
@@ -473,6 +492,17 @@ final class TermBoundaries {
                 total(5, 0, 3) -> {0, 1, 6}
                 close(1, true)
                 total(5, 0, 3) -> {1, 6}
+                new
+                lane(0, 1, 4, 0)
+                lane(5, 0, 3, 2)
+                lane(5, 6, 1, 2)
+                lane(6, 1, 2, 3)
+                lane(0, 9, 7, 1)
+                lane(1, 9, 7, 1)
+                alley(9, 0, 1)
+                total(5, 0, 0) -> 10
+                total(6, 0, 0) -> 9
+                total(5, 0, 3) -> {0}
                 """);
     }
 
