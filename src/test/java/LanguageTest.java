@@ -66,6 +66,21 @@ public final class LanguageTest {
         check(methods > 100, 0, "only " + methods + " methods were found");
     }
 
+    /** All calls of a run share one room, so that calls use the rows that the constructors have made. */
+    private static void made(List<String> lines) {
+        String method = "";
+        int found = 0;
+        for (int i = 0; i < lines.size(); i++) {
+            Matcher m = METHOD.matcher(lines.get(i));
+            method = m.matches() ? m.group(2) : method;
+            if (code(lines.get(i)).matches(".*\\bnew\\b.*") || code(lines.get(i)).contains("clone(")) {
+                found++;
+                check(!method.isEmpty() && Character.isUpperCase(method.charAt(0)), i, method + " makes an object");
+            }
+        }
+        check(found > 10, 0, "only " + found + " lines were found that make something");
+    }
+
     private static void classes(List<String> lines) {
         int classes = 0;
         int inside = 0;
@@ -91,6 +106,7 @@ public final class LanguageTest {
         List<String> lines = Files.readAllLines(Paths.get(args[0]));
         words(lines);
         methods(lines);
+        made(lines);
         classes(lines);
         System.out.println(wrong == 0 ? "the lines keep to the language" : wrong + " lines do not keep to the language");
         if (wrong != 0) {

@@ -51,7 +51,9 @@ final class Reference {
         int[] rank = new int[14];
         List<Lane> lanes = new ArrayList<>();
         List<Alley> alleys = new ArrayList<>();
+        // What was asked is kept: a state is changed only while it is a new copy, of which nothing has been asked.
         Integer[][][] way = null;
+        boolean[][] in = null;
 
         State() {
             java.util.Arrays.fill(rank, 1);
@@ -84,12 +86,14 @@ final class Reference {
         }
 
         boolean in(int district, int crossing) {
-            for (Lane l : lanes) {
-                if (told(l) && l.district == district && (l.one == crossing || l.other == crossing)) {
-                    return true;
+            if (in == null) {
+                in = new boolean[4][14];
+                for (Lane l : lanes) {
+                    in[l.district][l.one] |= told(l);
+                    in[l.district][l.other] |= told(l);
                 }
             }
-            return false;
+            return in[district][crossing];
         }
 
         boolean gate(int district, int crossing) {
@@ -122,7 +126,6 @@ final class Reference {
             return best;
         }
 
-        /** Kept until the state is copied or changed; whoever changes it calls changed(). */
         Integer way(int district, int one, int other) {
             if (way == null) {
                 way = new Integer[5][14][];
@@ -133,10 +136,6 @@ final class Reference {
                 }
             }
             return way[district][one][other];
-        }
-
-        void changed() {
-            way = null;
         }
 
         Integer byOne(int crossing, Alley a) {
